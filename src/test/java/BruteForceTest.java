@@ -117,19 +117,21 @@ public final class BruteForceTest {
             return all;
         }
 
-        boolean hasHope(int state, boolean open, int depth) {
+        boolean hasHope(int state, boolean open, boolean[] seen) {
+            int node = state * 2 + (open ? 1 : 0);
+            if (seen[node]) {
+                return false;
+            }
+            seen[node] = true;
             for (int[] end : ends) {
                 if (end[0] == state && !open) {
                     return true;
                 }
             }
-            if (depth == 0) {
-                return false;
-            }
             for (int[] go : gos) {
                 boolean quotes = go[4] == 2 ? !open : go[4] != 3 || open;
                 boolean behind = go[4] == 2 || (open && go[4] != 3);
-                if (go[0] == state && quotes && hasHope(go[2], behind, depth - 1)) {
+                if (go[0] == state && quotes && hasHope(go[2], behind, seen)) {
                     return true;
                 }
             }
@@ -147,7 +149,7 @@ public final class BruteForceTest {
             int[] one = null;
             int same = 0;
             for (Way way : firsts) {
-                if (way == null || !hasHope(way.state, way.open, 9)) {
+                if (way == null || !hasHope(way.state, way.open, new boolean[20])) {
                     continue;
                 }
                 if (one == null) {
