@@ -233,7 +233,7 @@ public final class StopSetter {
         return named || i == 0 || endMark == STOP || endMark == QUESTION || goMark == OPEN;
     }
 
-    /** Columns that still hold are kept, so that a word at the end costs one column alone. */
+    /** Levels that still hold are kept, so that a word at the end costs one level alone. */
     private void solve() {
         for (int i = chart.ready; i < size && i < ROW_LIMIT; i++) {
             int word = wordAt(i);
@@ -647,7 +647,7 @@ public final class StopSetter {
                 next[cell(ready + 1, node)] = FAR;
             }
             for (int node = 0; node < NODES; node++) {
-                if (best[cell(ready, node)] < FAR) {
+                if (isReached(node)) {
                     stepFrom(node, lines, set, mark);
                 }
             }
@@ -706,14 +706,27 @@ public final class StopSetter {
 
         private void rankLevel() {
             for (int node = 0; node < NODES; node++) {
-                int lesser = 0;
-                for (int other = 0; other < NODES; other++) {
-                    if (best[cell(ready, other)] < FAR && order[other] < order[node]) {
-                        lesser++;
-                    }
+                if (isReached(node)) {
+                    rank[cell(ready, node)] = waysAheadOf(node);
                 }
-                rank[cell(ready, node)] = lesser;
             }
+        }
+
+        private int waysAheadOf(int node) {
+            int ahead = 0;
+            if (node < 0 || node >= NODES) {
+                return ahead;
+            }
+            for (int other = 0; other < NODES; other++) {
+                if (isReached(other) && order[other] < order[node]) {
+                    ahead++;
+                }
+            }
+            return ahead;
+        }
+
+        private boolean isReached(int node) {
+            return best[cell(ready, node)] < FAR;
         }
 
         /** THE PARTING's last end line, and the two least COSTS; a ROW without WORDS has no PARTING. */
@@ -728,7 +741,7 @@ public final class StopSetter {
             for (int state = 0; state < STATES; state++) {
                 int node = nodeOf(state, 0);
                 for (int end = 0; end < lines.endCount; end++) {
-                    if (best[cell(ready, node)] < FAR && lines.canEnd(end, state, FREE)) {
+                    if (isReached(node) && lines.canEnd(end, state, FREE)) {
                         offerLast(node, end, lines.costOfEnd(end));
                     }
                 }
@@ -787,7 +800,7 @@ public final class StopSetter {
             int first = NONE;
             int shared = 0;
             for (int node = 0; node < NODES; node++) {
-                if (best[cell(ready, node)] < FAR && lines.isHopeful(node)) {
+                if (isReached(node) && lines.isHopeful(node)) {
                     shared = first == NONE ? ready : Math.min(shared, meetingLevel(first, node));
                     first = first == NONE ? node : first;
                 }
