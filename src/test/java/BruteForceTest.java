@@ -7,7 +7,6 @@ import java.util.NoSuchElementException;
  * The numbers come from a fixed seed, so that each run of this test is the same.
  */
 public final class BruteForceTest {
-    private static int wrong = 0;
     private static long seed = 20261116;
 
     private static int pick(int bound) {
@@ -16,9 +15,7 @@ public final class BruteForceTest {
     }
 
     private static void due(int run, String call, long got, long want) {
-        if (got != want && wrong++ < 20) {
-            System.out.println("run " + run + ": " + call + " answered " + got + ", due is " + want);
-        }
+        Checks.due("run " + run + ": " + call, got, want);
     }
 
     /** A way through the words so far: end line and go line by turns, with what stands behind it. */
@@ -184,18 +181,8 @@ public final class BruteForceTest {
             text.append("end ").append(end[0]).append(" cost ").append(end[1]);
             text.append(" with ").append(END_MARKS[end[2] - 4]).append(" ;\n");
         }
-        for (int at = 0; at < text.length(); at += 24) {
-            x.feed(eight(text, at), eight(text, at + 8), eight(text, at + 16));
-        }
+        Checks.feed(x, text);
         due(run, "grammar", x.grammar(), 0);
-    }
-
-    private static long eight(CharSequence text, int at) {
-        long bytes = 0;
-        for (int i = at; i < at + 8; i++) {
-            bytes = bytes << 8 | (i < text.length() ? text.charAt(i) : 0);
-        }
-        return bytes;
     }
 
     private static void change(StopSetter x, Model model, int run) {
@@ -286,9 +273,6 @@ public final class BruteForceTest {
                 compare(x, model, run);
             }
         }
-        if (wrong > 0) {
-            System.out.println(wrong + " answers are wrong");
-        }
-        System.exit(wrong == 0 ? 0 : 1);
+        System.exit(Checks.exitCode());
     }
 }

@@ -8,7 +8,6 @@ import java.util.List;
  */
 public final class LongRowTest {
     private static final int FAR = 1 << 28;
-    private static int wrong = 0;
     private static long seed = 77;
 
     private static int pick(int bound) {
@@ -17,9 +16,7 @@ public final class LongRowTest {
     }
 
     private static void due(int run, String call, long got, long want) {
-        if (got != want && wrong++ < 20) {
-            System.out.println("run " + run + ": " + call + " answered " + got + ", due is " + want);
-        }
+        Checks.due("run " + run + ": " + call, got, want);
     }
 
     private static final class Model {
@@ -169,22 +166,12 @@ public final class LongRowTest {
             model.ends.add(end);
             text.append("end" + end[0] + "cost" + end[1] + "with " + END_MARKS[end[2] - 4] + ";");
         }
-        for (int at = 0; at < text.length(); at += 24) {
-            x.feed(eight(text, at), eight(text, at + 8), eight(text, at + 16));
-        }
+        Checks.feed(x, text);
         due(run, "grammar", x.grammar(), 0);
         for (int word = 1; word <= 9; word++) {
             model.kinds[word] = 1 + pick((1 << kinds) - 1);
             due(run, "kinds", x.kinds(word, model.kinds[word]) ? 1 : 0, 1);
         }
-    }
-
-    private static long eight(CharSequence text, int at) {
-        long bytes = 0;
-        for (int i = at; i < at + 8; i++) {
-            bytes = bytes << 8 | (i < text.length() ? text.charAt(i) : 0);
-        }
-        return bytes;
     }
 
     private static void compare(StopSetter x, Model model, int run) {
@@ -272,9 +259,6 @@ public final class LongRowTest {
         for (int run = 1001; run <= 1200; run++) {
             settledStays(run);
         }
-        if (wrong > 0) {
-            System.out.println(wrong + " answers are wrong");
-        }
-        System.exit(wrong == 0 ? 0 : 1);
+        System.exit(Checks.exitCode());
     }
 }

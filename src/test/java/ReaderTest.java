@@ -12,18 +12,11 @@ public final class ReaderTest {
     private static final String[] PIECES = {
         "go", "end", "kind", "to", "cost", "with", "comma", "open", "close", "stop", "question", "colon", ";",
         "0", "7", "8", "9", "10", "999", "1000", "0009", "00000", "12345", "x", "goo", "questions", "A", ":", "-", "\n", " "};
-    private static int wrong = 0;
     private static long seed = 4711;
 
     private static int pick(int bound) {
         seed = seed * 6364136223846793005L + 1442695040888963407L;
         return (int) ((seed >>> 33) % bound);
-    }
-
-    private static void due(String what, long got, long want) {
-        if (got != want && wrong++ < 20) {
-            System.out.println(what + " answered " + got + ", due is " + want);
-        }
     }
 
     private static final class Told {
@@ -131,14 +124,6 @@ public final class ReaderTest {
         return text.toString();
     }
 
-    private static long eight(String text, int at) {
-        long bytes = 0;
-        for (int i = at; i < at + 8; i++) {
-            bytes = bytes << 8 | (i < text.length() ? text.charAt(i) : 0);
-        }
-        return bytes;
-    }
-
     private static void compareReaders() {
         StopSetter x = new StopSetter();
         Told stands = new Told();
@@ -148,19 +133,17 @@ public final class ReaderTest {
                 stands = new Told();
             }
             String text = randomTape();
-            for (int at = 0; at < text.length(); at += 24) {
-                x.feed(eight(text, at), eight(text, at + 8), eight(text, at + 16));
-            }
-            due("signs of " + text, x.count(3), text.length());
+            Checks.feed(x, text);
+            Checks.due("signs of " + text, x.count(3), text.length());
             Told told = read(text);
-            due("grammar of " + text, x.grammar(), told.fault);
+            Checks.due("grammar of " + text, x.grammar(), told.fault);
             stands = told.fault == 0 ? told : stands;
-            due("signs left of " + text, x.count(3), 0);
-            due("go lines of " + text, x.count(1), stands.gos.size());
-            due("end lines of " + text, x.count(2), stands.ends);
+            Checks.due("signs left of " + text, x.count(3), 0);
+            Checks.due("go lines of " + text, x.count(1), stands.gos.size());
+            Checks.due("end lines of " + text, x.count(2), stands.ends);
             for (int line = 0; line < stands.gos.size(); line++) {
                 int what = pick(5);
-                due("go " + line + " " + what + " of " + text, x.go(line, what), stands.gos.get(line)[what]);
+                Checks.due("go " + line + " " + what + " of " + text, x.go(line, what), stands.gos.get(line)[what]);
             }
         }
     }
@@ -188,8 +171,8 @@ public final class ReaderTest {
             case 13: x.count(wild()); break;
             case 14:
                 String line = randomLine();
-                x.feed(eight(line, 0), eight(line, 8), eight(line, 16));
-                x.feed(eight(line, 24), eight(line, 32), eight(line, 40));
+                x.feed(Checks.eight(line, 0), Checks.eight(line, 8), Checks.eight(line, 16));
+                x.feed(Checks.eight(line, 24), Checks.eight(line, 32), Checks.eight(line, 40));
                 break;
             default: x.word(wild());
         }
@@ -204,7 +187,7 @@ public final class ReaderTest {
                 } catch (NoSuchElementException e) {
                     continue;
                 } catch (RuntimeException e) {
-                    due("a wild call, which threw " + e, 1, 0);
+                    Checks.due("a wild call, which threw " + e, 1, 0);
                 }
             }
         }
@@ -213,9 +196,6 @@ public final class ReaderTest {
     public static void main(String[] args) {
         compareReaders();
         callAllWildly();
-        if (wrong > 0) {
-            System.out.println(wrong + " answers are wrong");
-        }
-        System.exit(wrong == 0 ? 0 : 1);
+        System.exit(Checks.exitCode());
     }
 }
