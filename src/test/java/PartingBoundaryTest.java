@@ -306,6 +306,44 @@ public final class PartingBoundaryTest {
         Checks.due("and the other costs the same", z.second(), 10);
     }
 
+    private static String quoted(int quotes, String mark) {
+        return quotes == 1 ? " with " + mark + ";" : ";";
+    }
+
+    /** The first STEP tells whatever two states, with quotes open or not, the two ways go through. */
+    private static void stepsInOrderByAllStates() {
+        for (int pair = 0; pair < 400; pair++) {
+            int one = pair / 20;
+            int other = pair % 20;
+            if (one == other) {
+                continue;
+            }
+            String text = "go 0 kind 0 to " + one / 2 + " cost 1" + quoted(one % 2, "open")
+                + "go 0 kind 0 to " + other / 2 + " cost 1" + quoted(other % 2, "open")
+                + "go " + other / 2 + " kind 1 to 9 cost 1" + quoted(other % 2, "close")
+                + "go " + one / 2 + " kind 1 to 9 cost 1" + quoted(one % 2, "close") + "end 9 cost 5 with stop;";
+            StopSetter x = toldByKinds(text, 1, 2);
+            Checks.due("the parting by " + text, Checks.parting(x), "-/0 -/3 0");
+            Checks.due("the other's cost by " + text, x.second(), 7);
+        }
+    }
+
+    /** The order holds between the greatest lines of one STEP and the least of another. */
+    private static void stepsInOrderByTheGreatestLines() {
+        String dummies = "go8kind0to8cost0;";
+        // Ahead of the second WORD: the way by state 1 has end line 9 and go line 39, that by state 2 neither.
+        String text = "go2kind1to3cost2;go0kind0to1cost1;go0kind0to2cost1;" + dummies.repeat(36) + "go0kind1to3cost1;"
+            + "end3cost0with stop;" + "end8cost0with stop;".repeat(8) + "end1cost1with stop;";
+        StopSetter x = toldByKinds(text, 1, 2);
+        Checks.due("the first step's go line 1 tells", Checks.parting(x), "-/1 9/39 0");
+        Checks.due("the other costs the same", x.second(), 3);
+        // In one STEP: no end line and go line 39, or end line 0 and go line 0.
+        text = "go0kind1to3cost0;go0kind0to1cost1;" + dummies.repeat(37) + "go1kind1to3cost1;end1cost1with stop;end3cost0with stop;";
+        StopSetter y = toldByKinds(text, 1, 2);
+        Checks.due("no end line tells", Checks.parting(y), "-/1 -/39 1");
+        Checks.due("the other costs the same, too", y.second(), 2);
+    }
+
     /** "at last the lesser end line behind the last WORD" */
     private static void atLastTheLesserEndLine() {
         StopSetter x = Checks.words(Checks.told("go 0 kind 0 to 0 cost 0; end 1 cost 0 with stop; end 0 cost 5 with colon; end 0 cost 5 with stop;"), 1);
@@ -340,6 +378,30 @@ public final class PartingBoundaryTest {
         Checks.due("one of the same cost", x.cost() * 1000 + x.second(), 110110);
         Checks.tell(x, "go 0 kind 0 to 1 cost 10; go 0 kind 0 to 1 cost 10; go 1 kind 1 to 2 cost 100; end 2 cost 0 with stop;");
         Checks.due("one of the same cost in the first step", x.second(), 110);
+    }
+
+    /** SECOND where the dearer of two lines is the lesser one, or the greater. */
+    private static void secondWhicheverComesFirst() {
+        int[][] costs = {{5, 3}, {3, 5}, {5, 3, 4}, {3, 4, 5}, {4, 5, 3}, {5, 4, 3}, {3, 3, 4}, {4, 3, 3}};
+        for (int[] some : costs) {
+            int[] sorted = some.clone();
+            java.util.Arrays.sort(sorted);
+            StringBuilder gos = new StringBuilder();
+            StringBuilder ends = new StringBuilder();
+            StringBuilder states = new StringBuilder();
+            for (int i = 0; i < some.length; i++) {
+                gos.append("go 0 kind 0 to 0 cost " + some[i] + ";");
+                ends.append("end 0 cost " + some[i] + " with stop;");
+                states.append("go 0 kind 0 to " + (i + 1) + " cost " + some[i] + "; go " + (i + 1) + " kind 1 to 9 cost 0;");
+            }
+            String name = "second by " + java.util.Arrays.toString(some);
+            Checks.due(name + " of go lines", toldByKinds(gos + "end 0 cost 900 with stop;", 1).second(), 900 + sorted[1]);
+            Checks.due(name + " of go lines twice", toldByKinds(gos + "end 0 cost 900 with stop;", 1, 1).second(), 900 + sorted[0] + sorted[1]);
+            Checks.due(name + " of end lines", toldByKinds("go 0 kind 0 to 0 cost 900;" + ends, 1).second(), 900 + sorted[1]);
+            Checks.due(name + " of end lines within", toldByKinds("go 0 kind 0 to 1 cost 0; go 0 kind 1 to 0 cost 0;"
+                + ends.toString().replace("end 0", "end 1") + "end 0 cost 0 with stop;", 1, 2).second(), sorted[1]);
+            Checks.due(name + " by states", toldByKinds(states + "end 9 cost 0 with stop;", 1, 2).second(), sorted[1]);
+        }
     }
 
     /** SECOND where the ways to it are two changes' sum or one change's, over a whole ROW. */
@@ -495,6 +557,29 @@ public final class PartingBoundaryTest {
         }
     }
 
+    /** Hope is of the GRAMMAR that is there, not of one that was. */
+    private static void hopeOfTheGrammarThatIsThere() {
+        String lost = "go 0 kind 0 to 0 cost 1; go 0 kind 1 to 1 cost 1; go 0 kind 1 to 2 cost 1; end 1 cost 0 with stop;";
+        StopSetter x = toldByKinds(lost + "end 2 cost 0 with stop;", 1, 2);
+        for (int times = 1; times <= 4; times++) {
+            Checks.due("two states with hope", x.settled(), 1);
+            Checks.tell(x, lost);
+            Checks.due("one of them without", x.settled(), 2);
+            Checks.tell(x, times % 2 == 0 ? "" : lost);
+            Checks.tell(x, lost);
+            Checks.due("one of them without, told again", x.settled(), 2);
+            Checks.tell(x, "go 0 kind 0 to 0 cost 1; go 0 kind 1 to 0 cost 1;");
+            Checks.due("none has hope", x.settled(), 0);
+            Checks.tell(x, lost + "end 2 cost 0 with stop;");
+        }
+        StopSetter y = toldByKinds("go 0 kind 0 to 0 cost 1; end 0 cost 1 with stop;", 1);
+        Checks.due("state 0 with hope", y.settled(), 1);
+        for (int times = 1; times <= 3; times++) {
+            Checks.tell(y, "go 0 kind 0 to 0 cost 1;");
+            Checks.due("state 0 without", y.settled(), 0);
+        }
+    }
+
     /** "(.. free of marks set by hand ..)": the marks bind the ROW's own WORDS alone. */
     private static void settledWithMarks() {
         StopSetter x = Checks.words(Checks.told("go 0 kind 0 to 0 cost 1; go 0 kind 0 to 1 cost 1 with comma; go 1 kind 0 to 1 cost 1; end 0 cost 5 with stop; end 1 cost 5 with stop;"), 1);
@@ -537,8 +622,11 @@ public final class PartingBoundaryTest {
         lesserEndLinesFirst();
         lesserGoLinesFirst();
         stepsInOrder();
+        stepsInOrderByAllStates();
+        stepsInOrderByTheGreatestLines();
         atLastTheLesserEndLine();
         secondOfAllBut();
+        secondWhicheverComesFirst();
         secondOverAWholeRow();
         raised();
         settledIs0WithoutAny();
@@ -549,6 +637,7 @@ public final class PartingBoundaryTest {
         withQuotesOpenOrNot();
         hopeByGoLinesOfAnyKinds();
         theLongestWayToAnEndLine();
+        hopeOfTheGrammarThatIsThere();
         settledWithMarks();
         System.exit(Checks.exitCode());
     }
